@@ -358,7 +358,12 @@ public final class MacroExpand {
         }
 
         boolean isOuter(int token) {
-            Macro known = macroOf(token);
+            int name = token - NAMES;
+            if (name < 0 || name >= MOST_NAMES) {
+                return false;
+            }
+            int number = numbers[name];
+            Macro known = number >= 0 && number < count ? macros[number] : null;
             return known != null && known.isOuter;
         }
 
@@ -586,18 +591,8 @@ public final class MacroExpand {
             return sum;
         }
 
-        int readAll(Macro macro) {
-            int found = readRow(macro.row(0));
-            for (int k = 1; k <= macro.arguments && found == 0; k++) {
-                Row end = macro.row(k);
-                Row argument = argument(k);
-                argument.clear();
-                found = end.size == 0 ? readNext(macro, argument) : readUpTo(end, macro, argument);
-            }
-            return found;
-        }
-
-        private int readRow(Row row) {
+        /** Row 0 of a macro, token by token. */
+        int readRow(Row row) {
             for (int i = 0; i < row.size; i++) {
                 if (input.isEmpty()) {
                     return FAULT_ENDED;
@@ -613,48 +608,45 @@ public final class MacroExpand {
             return 0;
         }
 
-        private int readNext(Macro macro, Row argument) {
+        /** An argument with an empty row behind it: the next token, or all within OPEN and its CLOSE. */
+        int readNext(int k, Macro macro) {
+            Row argument = argument(k);
+            argument.clear();
             for (int i = 0; i < MOST_TOKENS && input.get(0) == BLANK; i++) {
                 input.take();
             }
-            if (input.isEmpty()) {
-                return FAULT_ENDED;
-            }
-            int token = input.take();
-            if (isForbidden(token, macro)) {
-                return FAULT_FORBIDDEN;
-            }
-            if (token == CLOSE) {
-                return FAULT_CLOSE;
-            }
-            if (token == OPEN) {
-                return readPair(macro, argument);
-            }
-            argument.add(token);
-            return 0;
-        }
-
-        /** All up to the CLOSE of an OPEN that has been taken. */
-        private int readPair(Macro macro, Row argument) {
-            int depth = 1;
+            int depth = 0;
             for (int i = 0; i < MOST_TOKENS && !input.isEmpty(); i++) {
                 int token = input.take();
                 if (isForbidden(token, macro)) {
                     return FAULT_FORBIDDEN;
                 }
+                int depthBefore = depth;
                 depth += Kind.nesting(token);
-                if (depth == 0) {
+                if (depth < 0) {
+                    return FAULT_CLOSE;
+                }
+                if (depthBefore == 0 && depth == 1) {
+                    continue;
+                }
+                if (depthBefore == 1 && depth == 0) {
                     return 0;
                 }
                 if (argument.isFull()) {
                     return FAULT_ROOM;
                 }
                 argument.add(token);
+                if (depth == 0) {
+                    return 0;
+                }
             }
             return FAULT_ENDED;
         }
 
-        private int readUpTo(Row end, Macro macro, Row argument) {
+        /** An argument with a row behind it: all up to that row, without the OPEN and CLOSE round all of it. */
+        int readUpTo(Row end, int k, Macro macro) {
+            Row argument = argument(k);
+            argument.clear();
             int depth = 0;
             for (int i = 0; i < MOST_TOKENS && !input.isEmpty(); i++) {
                 if (depth == 0 && input.beginsWith(end)) {
@@ -840,7 +832,11 @@ public final class MacroExpand {
         private int expandName(int token, Macro macro) {
             int nameBefore = nameAtWork;
             nameAtWork = token;
-            int found = arguments.readAll(macro);
+            int found = arguments.readRow(macro.row(0));
+            for (int k = 1; k <= macro.arguments && found == 0; k++) {
+                Row end = macro.row(k);
+                found = end.size == 0 ? arguments.readNext(k, macro) : arguments.readUpTo(end, k, macro);
+            }
             if (found != 0) {
                 return found;
             }

@@ -111,6 +111,9 @@ public final class ArgumentsTest extends Check {
         faulted("outer name", x, 2, name(0), 1);
         feed(x, name(0), "}");
         faulted("CLOSE", x, 3, name(0), 1);
+        macro(x, 3, 0, 1, rows(tokens("a", name(1))), "q");
+        feed(x, name(3), "a", name(1));
+        faulted("outer name that row 0 has, too", x, 2, name(3), 1);
         feed(x, name(0), PARAGRAPH);
         faulted("PARAGRAPH is only no row", x, 3, name(0), 1);
         feed(x, name(2), "a", PARAGRAPH);
@@ -140,6 +143,26 @@ public final class ArgumentsTest extends Check {
         x.define(2, 0, 0);
         feed(x, name(0), name(2));
         whole("outer no more", x);
+        firstAndLastNames();
+    }
+
+    private static void firstAndLastNames() {
+        MacroExpand x = fresh();
+        macro(x, 0, 0, 2, rows(), "o");
+        macro(x, 199, 0, 6, rows(), "o");
+        macro(x, 1, 1, 1, rows(), par(1));
+        macro(x, 2, 0, 5, rows(), "l");
+        macro(x, 3, 1, 2, rows(), par(1));
+        feed(x, name(1), name(0));
+        faulted("name 0", x, 2, name(1), 1);
+        feed(x, name(1), name(199));
+        faulted("name 199", x, 2, name(1), 1);
+        feed(x, name(1), name(2));
+        whole("LONG and GLOBAL are not OUTER", x, "l");
+        feed(x, name(3), PARAGRAPH);
+        faulted("OUTER is not LONG", x, 2, name(3), 1);
+        feed(x, name(1), name(4));
+        whole("a name without macro", x, name(4));
     }
 
     private static void paragraphs() {

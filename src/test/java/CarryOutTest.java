@@ -36,6 +36,9 @@ public final class CarryOutTest extends Check {
         feed(x, DEFINE, name(5), par(1), par(2), par(3), par(4), par(5), par(6), par(7), par(8), par(9), "{", par(9), "}",
                 name(5), "123456789");
         whole("nine arguments", x, "9");
+        feed(x, DEFINE, name(5), par(1), par(2), par(3), par(4), par(5), par(6), par(7), par(8), ".", par(9), "!",
+                "{", par(8), par(9), "}", name(5), "123456788.99!");
+        whole("rows behind the last ones", x, "8899");
         feed(x, DEFINE, name(6), "{", DEFINE, "}", DEFINE, name(7), name(6), "{o}", name(7), name(6));
         whole("names are delimiters, too", x, "o");
     }
@@ -50,6 +53,8 @@ public final class CarryOutTest extends Check {
         }
         feed(x, DEFINE);
         faulted("end", x, 1, 0, 0);
+        feed(x, GLOBAL, DEFINE);
+        faulted("end behind marks", x, 1, 0, 0);
         feed(x, DEFINE, name(1));
         faulted("end behind the name", x, 1, name(1), 0);
         feed(x, DEFINE, name(1), "a}");
@@ -228,10 +233,16 @@ public final class CarryOutTest extends Check {
     private static void faultsTellTheLatest() {
         MacroExpand x = fresh();
         macro(x, 0, 1, 0, rows(), "a");
+        feed(x, DEFINE, name(2), "{b}", LONG, "c");
+        faulted("the definition was through", x, 6, 0, 0);
+        feed(x, DEFINE, name(2), "{b}", DEFINE, "c");
+        faulted("the name of the definition before is not told", x, 6, 0, 0);
+        feed(x, name(0), "b", LONG, "c");
+        faulted("the expansion was through", x, 6, 0, 1);
         feed(x, DEFINE, name(1), "{b}", name(0), "c", name(0));
         faulted("fault", x, 1, name(0), 2);
         output("what was put out stays", x, "a");
-        same("what was defined stays", x.macro(1), 1);
+        same("what was defined stays", x.macro(1), 3);
         same("fault(3)", x.fault(3), -2);
         same("fault(-1)", x.fault(-1), -2);
         same("fault(highest)", x.fault(Integer.MAX_VALUE), -2);

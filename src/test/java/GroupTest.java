@@ -15,10 +15,12 @@ public final class GroupTest extends Check {
             same("opens", x.group(true), i);
         }
         same("21st", x.group(true), -4);
+        same("global in twenty", x.define(0, 0, 4), 0);
         for (int i = 19; i >= 0; i--) {
             same("ends", x.group(false), i);
         }
         same("none is open again", x.group(false), -3);
+        same("global outside of twenty", x.macro(0), 0);
     }
 
     private static void namesComeBack() {
