@@ -1044,21 +1044,25 @@ public final class MacroExpand {
                 definition.begin(token == DEFINE_EXPANDED);
                 return 0;
             }
-            // The document's order of faults: the input's end (1) before marks in the wrong place (6).
-            if (token == LATER && input.isEmpty()) {
-                return FAULT_ENDED;
-            }
+            // With marks LATER is not carried out, so whether a token follows it does not matter then.
             if (marks != 0) {
                 return FAULT_DEFINITION;
             }
             if (token == LATER) {
-                later = input.take();
-                return 0;
+                return takeLater();
             }
             if (output.isFull()) {
                 return FAULT_ROOM;
             }
             output.add(token);
+            return 0;
+        }
+
+        private int takeLater() {
+            if (input.isEmpty()) {
+                return FAULT_ENDED;
+            }
+            later = input.take();
             return 0;
         }
 

@@ -226,8 +226,14 @@ public final class CarryOutTest extends Check {
         feed(x, "a", LATER);
         faulted("end", x, 1, 0, 0);
         output("end", x, "a");
-        feed(x, LONG, LATER);
-        faulted("end before marks", x, 1, 0, 0);
+        for (int mark : new int[] {LONG, OUTER, GLOBAL}) {
+            feed(x, mark, LATER);
+            faulted("marks before LATER at the end, " + mark, x, 6, 0, 0);
+            feed(x, mark, HOLD, LATER);
+            faulted("marks before LATER behind HOLD at the end, " + mark, x, 6, 0, 1);
+        }
+        feed(x, GLOBAL, DEFINE, name(0), "{g}", LATER);
+        faulted("marks that are used up", x, 1, 0, 0);
     }
 
     private static void faultsTellTheLatest() {
