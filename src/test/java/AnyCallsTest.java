@@ -2,6 +2,7 @@
 public final class AnyCallsTest extends Check {
     private static final int[] POOL = {'a', 'b', ',', PARAGRAPH, BLANK, OPEN, OPEN, CLOSE, CLOSE, HOLD, AFTER, NAMING,
         NAMED, DEFINE, DEFINE_EXPANDED, LONG, OUTER, GLOBAL, LATER, 311, 312, 321, 331, 1000, 1001, 1002, 1003, 1100};
+    private static final int MOST_IN_ONE = 8;
     private static long seed = 20261115;
 
     public static void main(String[] args) {
@@ -22,15 +23,17 @@ public final class AnyCallsTest extends Check {
 
     private static void oneRun(int run) {
         MacroExpand x = new MacroExpand(below(3) == 0 ? below(30) : 20000);
-        for (int call = 0; call < 400; call++) {
-            oneCall(x);
+        // What is asked of an object keeps to its first 512 calls.
+        for (int calls = 0; calls <= 512 - MOST_IN_ONE;) {
+            calls += oneCall(x);
         }
         if (run % 100 == 0) {
             oddCalls(x);
         }
     }
 
-    private static void oneCall(MacroExpand x) {
+    /** How many calls were made, or a few more. */
+    private static int oneCall(MacroExpand x) {
         int kind = below(100);
         if (kind < 60) {
             x.token(someToken());
@@ -44,7 +47,9 @@ public final class AnyCallsTest extends Check {
             x.group(below(2) == 0);
         } else {
             expandAndCompare(x, below(2) == 0);
+            return MOST_IN_ONE;
         }
+        return 1;
     }
 
     private static void expandAndCompare(MacroExpand x, boolean whole) {
@@ -61,6 +66,7 @@ public final class AnyCallsTest extends Check {
         same("steps", x.fault(2) >= 0 && x.fault(2) <= 20000 ? 1 : 0, 1);
     }
 
+    /** Nothing is asked of these, which may be beyond the 512th call, but that none throws. */
     private static void oddCalls(MacroExpand x) {
         int[] odd = {Integer.MIN_VALUE, -1001, -1000, -2, -1, 0, 1, 99, 100, 199, 200, 1000, 3000, Integer.MAX_VALUE};
         for (int i : odd) {

@@ -94,8 +94,9 @@ public final class CarryOutTest extends Check {
         } else {
             faulted("body of " + size, x, fault, name(0), 0);
         }
-        feed(x, DEFINE, name(0), "{", times(size, "a"));
-        faulted("end in a body of " + size, x, size > 200 ? 8 : 1, name(0), 0);
+        MacroExpand y = fresh();
+        feed(y, DEFINE, name(0), "{", times(size, "a"));
+        faulted("end in a body of " + size, y, size > 200 ? 8 : 1, name(0), 0);
     }
 
     private static void rowOf(int size, Object behind, int fault) {

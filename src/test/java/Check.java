@@ -78,7 +78,11 @@ class Check {
     }
 
     static void feed(MacroExpand x, Object... parts) {
-        for (int token : tokens(parts)) {
+        feed(x, tokens(parts));
+    }
+
+    static void feed(MacroExpand x, int[] row) {
+        for (int token : row) {
             if (x.token(token) < 0) {
                 same("feeding " + token, -1, 0);
             }
@@ -135,6 +139,18 @@ class Check {
 
     static void faulted(String what, MacroExpand x, int fault, int name, int steps) {
         faulted(what, x, true, fault, name, steps);
+    }
+
+    /** Tokens that are fed and then wholly expanded without fault; the tokens come as one row, made by tokens(). */
+    static void gives(String what, MacroExpand x, int[] fed, Object... due) {
+        feed(x, fed);
+        whole(what, x, due);
+    }
+
+    /** Tokens that are fed and whose whole expansion ends in a fault. */
+    static void faults(String what, MacroExpand x, int fault, int name, int steps, Object... fed) {
+        feed(x, fed);
+        faulted(what, x, fault, name, steps);
     }
 
     static MacroExpand fresh() {
