@@ -88,6 +88,9 @@ public final class TermsOfCarryingOutTest extends Check {
                 "a1bc2d3"), "<1|2>3");
         gives("none", x, tokens(DEFINE, name(0), par(1), par(2), "{<", par(1), "|", par(2), ">}", name(0), "123"), "<1|2>3");
         gives("before alone", x, tokens(DEFINE, name(0), "a{x}", name(0), "ab"), "xb");
+        gives("in ten rows", x, tokens(DEFINE, name(3), "0", par(1), "1", par(2), "2", par(3), "3", par(4), "4", par(5), "5",
+                par(6), "6", par(7), "7", par(8), "8", par(9), "9", "{", par(9), par(8), par(1), "}", name(3),
+                "0a1b2c3d4e5f6g7h8i9j"), "ihaj");
         int[] any = {0, 255, PARAGRAPH, BLANK, HOLD, AFTER, NAMING, NAMED, DEFINE, DEFINE_EXPANDED, LONG, OUTER, GLOBAL,
             LATER, name(0), name(1), name(2)};
         gives("an outer macro", x, tokens(OUTER, DEFINE, name(2), "{o}"));
